@@ -15,6 +15,7 @@ public final class AnswersTest {
         promise21RankedAt();
         promise21RankedAtByExactFractions();
         wrongArguments();
+        wrongArgumentsOfFortyRows();
         greatestNumbers();
         Check.end();
     }
@@ -169,6 +170,8 @@ public final class AnswersTest {
         // now 1000 / (1 + 1400) and 2000 / (1 + 2800)
         Check.equal("21: one less", x.rankedAt(1), 2);
         Check.noRow("21: place 4 now", () -> x.rankedAt(4));
+        x.withdraw(1);
+        Check.equal("21: the first one is withdrawn", x.rankedAt(0), 2);
     }
 
     private static void promise21RankedAtByExactFractions() {
@@ -210,6 +213,18 @@ public final class AnswersTest {
         wrongLevel(x, 1, 3);
         wrongLevel(x, 2, 4);
         Check.noRow("17: worst of trait 3", () -> x.worst(3));
+    }
+
+    private static void wrongArgumentsOfFortyRows() {
+        RateFitter x = new RateFitter();
+        for (int row = 0; row < 40; row++) {
+            x.add(0, 0, 0, 10, 1, 1000);
+        }
+        Check.equal("14: the last row", x.fitted(39), 1000);
+        Check.equal("21: the last place", x.rankedAt(39), 39);
+        wrongRow(x, 40);
+        Check.noRow("3: row 40", () -> x.withdraw(40));
+        Check.noRow("4: row 40", () -> x.setOld(40, 5));
     }
 
     private static void wrongRow(RateFitter x, int row) {

@@ -161,6 +161,13 @@ public final class FittingTest {
         setFactors(x, 0, 20000, 10001, 15000, 30000);
         x.smooth(0);
         factors("9: withdrawn exposure does not count", x, 0, 13334, 13334, 15000, 30000);
+
+        RateFitter least = new RateFitter();
+        least.add(0, 0, 0, 1, 1, 100);
+        least.add(0, 1, 0, 1, 1, 100);
+        setFactors(least, 1, 20000, 10001, 20000);
+        least.smooth(1);
+        factors("9: half of one is rounded down", least, 1, 15000, 15000, 20000);
     }
 
     private static void promise9SmoothJoinsBackward() {
@@ -259,6 +266,9 @@ public final class FittingTest {
         Check.equal("10: down", x.spread(), 400);
         Check.equal("10: the least spread", x.spread(), 1);
         Check.equal("10: it stays", x.spread(), 1);
+        x.setOld(0, 1);
+        // ratio 40000000 again; without its limit the spread would be 4000
+        Check.equal("10: the greatest ratio from a small spread", x.spread(), 100);
         RateFitter noLosses = new RateFitter();
         noLosses.add(0, 0, 0, 10, 1, 0);
         noLosses.setOld(0, 100);
