@@ -4,7 +4,6 @@ final class Check {
         long answer();
     }
 
-    private static final String NOTHING = "nothing";
     private static int wrong = 0;
 
     private Check() {
@@ -36,22 +35,13 @@ final class Check {
 
     // the class must be the very one: the machine throws subclasses of it, and those are faults
     private static void throwsOne(String what, Class<? extends RuntimeException> due, Call call) {
-        same(what, thrownBy(call), due.getSimpleName());
+        same(what, outcome(call), due.getSimpleName());
     }
 
     /** The answer as a text, or the name of the exception thrown. */
     static String outcome(Call call) {
         try {
             return Long.toString(call.answer());
-        } catch (RuntimeException thrown) {
-            return thrown.getClass().getSimpleName();
-        }
-    }
-
-    private static String thrownBy(Call call) {
-        try {
-            call.answer();
-            return NOTHING;
         } catch (RuntimeException thrown) {
             return thrown.getClass().getSimpleName();
         }
