@@ -5,6 +5,7 @@ public final class PremiumEdgesTest {
         fittedLossesAreRoundedDownAtEachStep();
         sumsOfALevelWithoutRowsAre0();
         worstLooksAtEveryLevel();
+        eachRowHasItsOwnPremium();
         thePremiumIsRoundedDown();
         withoutACapItIsTheNewPremium();
         withoutAnOldPremiumItIsTheNewOne();
@@ -21,6 +22,7 @@ public final class PremiumEdgesTest {
         theSpreadIsAtMost1000000();
         theSpreadIsRoundedDown();
         theSpreadIsByCappedPremiumsAheadOfIt();
+        theSpreadIsByFittedLossesAndNotByTold();
         lostIsLessThan0Too();
         placesOfNoneAndOneAndForty();
         equalFractionsGoByNumber();
@@ -113,6 +115,27 @@ public final class PremiumEdgesTest {
     }
 
     // ---- promises 18 and 19
+
+    // "The new premium of a row is its fitted loss, times the spread"
+    private static void eachRowHasItsOwnPremium() {
+        RateFitter x = new RateFitter();
+        for (int row = 0; row < 40; row++) {
+            x.add(row % 4, row % 3, row % 4, 1 + row, 1, 10 * (1 + row));
+        }
+        for (int row = 0; row < 40; row++) {
+            Check.equal("18: its own fitted loss", x.premium(row), 10 * (1 + row));
+            Check.equal("19: capped without a cap", x.capped(row), 10 * (1 + row));
+        }
+        x.setOld(0, 0);
+        x.setRules(0, 0);
+        // 8200 fitted, 8190 capped
+        Check.equal("10: the spread", x.spread(), 10012);
+        Check.equal("18: of the first row", x.premium(0), 10);
+        Check.equal("18: of the last row", x.premium(39), 400);
+        x.setFactor(0, 3, 20000);
+        Check.equal("18: of the last row by its factor", x.premium(39), 800);
+        Check.equal("18: of the row 37 by none", x.premium(37), 380);
+    }
 
     private static void thePremiumIsRoundedDown() {
         RateFitter x = capped(9999, 1, 0);
@@ -291,6 +314,17 @@ public final class PremiumEdgesTest {
         Check.equal("10: its premium", x.capped(1), 1333);
         // 2000 for 500 + 1333: 10911
         Check.equal("10: second", x.spread(), 14547);
+    }
+
+    // "10000 times the sum of all fitted losses"
+    private static void theSpreadIsByFittedLossesAndNotByTold() {
+        RateFitter x = capped(1000, 500, 0);
+        x.setFactor(0, 0, 30000);
+        Check.equal("10: fitted 3000 for 500", x.spread(), 60000);
+        RateFitter less = capped(1000, 500, 0);
+        less.setFactor(2, 0, 1000);
+        Check.equal("10: fitted 100 for 500", less.spread(), 2000);
+        Check.equal("20: lost by fitted losses too", less.lost(), -400);
     }
 
     // ---- promise 20

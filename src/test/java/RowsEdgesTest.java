@@ -9,6 +9,7 @@ public final class RowsEdgesTest {
     public static void main(String[] args) {
         aNewObjectHasNothing();
         aNewObjectHasItsFirstSettings();
+        aNewObjectBesideAUsedOneIsNew();
         everyLevelIsTaken();
         exposuresOf1And1000AreTaken();
         claimsOf0And1000AreTaken();
@@ -25,6 +26,7 @@ public final class RowsEdgesTest {
         aWithdrawnRowCountsNoMoreInTheOrder();
         oldPremiumsOf0And10000000AreTaken();
         anOldPremiumOfNoneIsTaken();
+        eachRowHasItsOwnOldPremium();
         credibilitiesOf0And1000AreTaken();
         capsOf0And1000AndNoneAreTaken();
         factorsOf100And100000AreTakenAtEveryLevel();
@@ -73,6 +75,19 @@ public final class RowsEdgesTest {
         x.setOld(0, 10000000);
         Check.equal("1: no cap upward", x.capped(0), 5000);
         Check.equal("1: the credibility", x.setRules(0, -1), 0);
+    }
+
+    private static void aNewObjectBesideAUsedOneIsNew() {
+        String untouched = Probe.everything(new RateFitter(), 0);
+        RateFitter used = fortyRows();
+        used.setOld(0, 1);
+        used.setRules(500, 0);
+        used.setFactor(1, 1, 20000);
+        used.spread();
+        String before = Probe.answers(used, 40);
+        RateFitter x = new RateFitter();
+        Check.same("1: as one that was made ahead of it", Probe.everything(x, 0), untouched);
+        Check.same("1: the used one stays as it is", Probe.answers(used, 40), before);
     }
 
     // "first: 0 to 3", "second: 0 to 2", "third: 0 to 3"
@@ -267,6 +282,21 @@ public final class RowsEdgesTest {
         Check.equal("4: still none", x.setOld(0, 1), -1);
         Check.equal("4: 1 before", x.setOld(0, -1), 1);
         Check.equal("4: without one again", x.capped(0), 1000);
+    }
+
+    // "Each row can have an old premium"
+    private static void eachRowHasItsOwnOldPremium() {
+        RateFitter x = fortyRows();
+        for (int row = 0; row < 40; row++) {
+            Check.equal("4: none before", x.setOld(row, 100 + row), -1);
+        }
+        x.setRules(0, 0);
+        for (int row = 0; row < 40; row++) {
+            Check.equal("4: capped by its own", x.capped(row), 100 + row);
+        }
+        for (int row = 39; row >= 0; row--) {
+            Check.equal("4: its own before", x.setOld(row, -1), 100 + row);
+        }
     }
 
     // "credibility: 0 to 1000"
